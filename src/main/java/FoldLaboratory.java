@@ -81,9 +81,9 @@ public final class FoldLaboratory {
             case 1:
                 return paper.rightEnd(i);
             case 2:
-                return paper.imageLow(i);
+                return paper.imageLow[i];
             case 3:
-                return paper.imageHigh(i);
+                return paper.imageHigh[i];
             case 4:
                 return paper.frontUp(i) ? 1 : 0;
             case 5:
@@ -141,7 +141,8 @@ public final class FoldLaboratory {
     }
 
     public int above(int n, int a, int b) throws IndexOutOfBoundsException {
-        if (n < 0 || n >= orders() || !paper.hasSegment(a) || !paper.hasSegment(b)) {
+        layerOrders.findAll();
+        if (n < 0 || n >= layerOrders.found || !paper.hasSegment(a) || !paper.hasSegment(b)) {
             throw new IndexOutOfBoundsException("no such order or segment");
         }
         if (a == b || !paper.overlap(a, b)) {
@@ -151,7 +152,8 @@ public final class FoldLaboratory {
     }
 
     public int layer(int n, int place, int k) throws IndexOutOfBoundsException {
-        if (n < 0 || n >= orders()) {
+        layerOrders.findAll();
+        if (n < 0 || n >= layerOrders.found) {
             throw new IndexOutOfBoundsException("no such order");
         }
         return layerOrders.segmentAt(layerOrders.rows[n], place, k);
@@ -272,13 +274,16 @@ public final class FoldLaboratory {
         final int[] creaseMarks;
         /** The folded places of the strip's left end, of each crease, and of its right end. */
         final int[] bends;
+        final int[] imageLow;
+        final int[] imageHigh;
 
         Paper() {
             creasePlaces = new int[MOST_CREASES];
             creaseMarks = new int[MOST_CREASES];
             bends = new int[MOST_SEGMENTS + 1];
-            length = 1;
-            bends[1] = 1;
+            imageLow = new int[MOST_SEGMENTS];
+            imageHigh = new int[MOST_SEGMENTS];
+            renew(1);
         }
 
         void renew(int newLength) {
@@ -353,6 +358,8 @@ public final class FoldLaboratory {
             bends[0] = 0;
             for (int i = 0; i <= creases; i++) {
                 bends[i + 1] = bends[i] + direction(i) * segmentLength(i);
+                imageLow[i] = Math.min(bends[i], bends[i + 1]);
+                imageHigh[i] = Math.max(bends[i], bends[i + 1]);
             }
         }
 
@@ -390,14 +397,6 @@ public final class FoldLaboratory {
             return rightEnd(i) - leftEnd(i);
         }
 
-        int imageLow(int i) {
-            return Math.min(bends[i], bends[i + 1]);
-        }
-
-        int imageHigh(int i) {
-            return Math.max(bends[i], bends[i + 1]);
-        }
-
         boolean frontUp(int i) {
             return (i % 2 == 0) != turned;
         }
@@ -421,7 +420,7 @@ public final class FoldLaboratory {
         int mostImages() {
             int most = 0;
             for (int i = 0; i <= creases; i++) {
-                most = Math.max(most, imagesOver(imageLow(i)));
+                most = Math.max(most, imagesOver(imageLow[i]));
             }
             return most;
         }
@@ -438,19 +437,19 @@ public final class FoldLaboratory {
 
         /** Whether the image of a segment has the stretch from the place to the next one. */
         boolean liesOver(int i, int place) {
-            return imageLow(i) <= place && place < imageHigh(i);
+            return imageLow[i] <= place && place < imageHigh[i];
         }
 
         boolean overlap(int a, int b) {
-            return imageLow(a) < imageHigh(b) && imageLow(b) < imageHigh(a);
+            return imageLow[a] < imageHigh[b] && imageLow[b] < imageHigh[a];
         }
 
         int foldedCrease(int i) {
             return bends[i + 1];
         }
 
-        boolean hasInside(int segment, int place) {
-            return imageLow(segment) < place && place < imageHigh(segment);
+        boolean hasInside(int i, int place) {
+            return imageLow[i] < place && place < imageHigh[i];
         }
     }
 
@@ -583,7 +582,11 @@ public final class FoldLaboratory {
             }
         }
 
-        /** Pairs are decided by b, then by a, and below comes before above: so orders are found by their numbers. */
+        /**
+         * Pairs are decided by b, then by a, and below comes before above: so orders are found by their numbers. Each
+         * rule is looked at as soon as the last of the pairs that it speaks of is decided. There are 21 pairs at most,
+         * and so many levels.
+         */
         private void decide(int a, int b, int order) {
             if (b > paper.creases) {
                 keep(order);
@@ -596,16 +599,17 @@ public final class FoldLaboratory {
                 decide(nextA, nextB, order);
                 return;
             }
-            if (fits(order, a, b)) {
-                decide(nextA, nextB, order);
-            }
-            int withAbove = order | bit(a, b);
-            if (fits(withAbove, a, b)) {
-                decide(nextA, nextB, withAbove);
+            for (int choice = 0; choice <= 1; choice++) {
+                int tried = choice == 0 ? order : order | bit(a, b);
+                if (keepsMark(tried, a, b) && makesNoRound(tried, a, b)
+                        && crossesNoCrease(tried, a, b) && creasesNest(tried, a, b)) {
+                    decide(nextA, nextB, tried);
+                }
             }
         }
 
         private void keep(int order) {
+            // seven segments can lie in 7! = 5040 ways at most, so this ends early
             if (found >= rows.length) {
                 rows = Arrays.copyOf(rows, 2 * rows.length);
             }
@@ -636,12 +640,6 @@ public final class FoldLaboratory {
             return isAbove(order, s, a) != isAbove(order, s, b);
         }
 
-        /** Looks at what is said of the pair (a, b) together with pairs before it; pairs behind look at it later. */
-        private boolean fits(int order, int a, int b) {
-            return keepsMark(order, a, b) && makesNoRound(order, a, b)
-                    && crossesNoCrease(order, a, b) && creasesNest(order, a, b);
-        }
-
         private boolean keepsMark(int order, int a, int b) {
             if (b != a + 1 || paper.creaseMarks[a] == FREE) {
                 return true;
@@ -661,17 +659,20 @@ public final class FoldLaboratory {
             return true;
         }
 
+        /** A crease's own segments have its place at an end, never inside. */
         private boolean crossesNoCrease(int order, int a, int b) {
             if (a > 0 && paper.hasInside(b, paper.foldedCrease(a - 1)) && isBetween(order, b, a - 1, a)) {
                 return false;
             }
-            return b - 1 == a || !paper.hasInside(a, paper.foldedCrease(b - 1)) || !isBetween(order, a, b - 1, b);
+            return !paper.hasInside(a, paper.foldedCrease(b - 1)) || !isBetween(order, a, b - 1, b);
         }
 
-        /** The creases left of a and of b: (a, b) is the last pair of their four segments. */
+        /**
+         * Of the creases at the left ends of a and of b: if they lie at one place, and a and b overlap, then all four
+         * segments lie on one side of it. Creases next to each other have a segment between them, so never lie so.
+         */
         private boolean creasesNest(int order, int a, int b) {
-            if (a == 0 || b - 1 == a || paper.foldedCrease(a - 1) != paper.foldedCrease(b - 1)
-                    || !paper.overlap(a, b)) {
+            if (a == 0 || paper.foldedCrease(a - 1) != paper.foldedCrease(b - 1)) {
                 return true;
             }
             return isBetween(order, b - 1, a - 1, a) == isBetween(order, b, a - 1, a);

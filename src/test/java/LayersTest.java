@@ -186,7 +186,6 @@ public final class LayersTest {
     private static void changesAreSeen() {
         FoldLaboratory x = alike(7, 0);
         Checks.due("462", 462, x.orders());
-        x.crease(6, 3);
         x.strip(3);
         Checks.due("a new strip", 1, x.orders());
         x.crease(1, 0);
