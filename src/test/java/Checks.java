@@ -4,8 +4,14 @@ import java.util.function.LongSupplier;
 final class Checks {
     private static int wrong = 0;
     private static int made = 0;
+    private static String sentence = "";
 
     private Checks() {
+    }
+
+    /** The words of the document that the checks from here on are about; they are told with what fails. */
+    static void sentence(String words) {
+        sentence = "'" + words + "': ";
     }
 
     static void due(String call, long want, long got) {
@@ -43,10 +49,39 @@ final class Checks {
         refused(call, UnsupportedOperationException.class, made);
     }
 
+    /** A refused call throws what is due, and nothing that can be seen has changed. */
+    static void refusedAndKept(FoldLaboratory x, String call, Class<? extends RuntimeException> want,
+            LongSupplier made) {
+        String before = state(x);
+        refused(call, want, made);
+        String after = state(x);
+        if (!after.equals(before)) {
+            fail(call + " was refused, and yet changed " + before + " to " + after);
+        }
+    }
+
+    /** What can be seen of an object, in some sixty calls. */
+    static String state(FoldLaboratory x) {
+        StringBuilder all = new StringBuilder();
+        for (int what = 0; what < 4; what++) {
+            all.append(x.count(what)).append(' ');
+        }
+        for (int i = 0; i <= x.count(1); i++) {
+            all.append('|');
+            for (int what = 0; what < 6; what++) {
+                all.append(' ').append(x.segment(i, what));
+            }
+        }
+        all.append(" | ").append(x.whereIs(x.count(0))).append(' ').append(x.width()).append(' ').append(x.thickness());
+        all.append(" | ").append(x.foldable()).append(' ').append(x.steps());
+        all.append(" | ").append(x.orders()).append(' ').append(x.marks());
+        return all.toString();
+    }
+
     static void fail(String what) {
         wrong++;
         if (wrong <= 20) {
-            System.out.println(what);
+            System.out.println(sentence + what);
         }
     }
 
